@@ -1,0 +1,93 @@
+/** Compares answers with those that are due, and puts whole QUESTIONS for the tests. */
+final class Checks {
+    private int wrong = 0;
+    private int made = 0;
+
+    void due(String what, long got, long want) {
+        made++;
+        if (got != want) {
+            wrong++;
+            System.out.println(what + " answered " + got + ", due is " + want);
+        }
+    }
+
+    /** Puts a QUESTION: what the call with its last octet answered. */
+    int put(ServiceRows2 x, boolean toAll, int... octets) {
+        int answered = x.ask((byte) (octets.length | (toAll ? 128 : 0)));
+        for (int i = 0; i < octets.length; i++) {
+            due("ask before octet " + i, answered, 0);
+            answered = x.ask((byte) octets[i]);
+        }
+        return answered;
+    }
+
+    int put(ServiceRows2 x, int... octets) {
+        return put(x, false, octets);
+    }
+
+    /** The last ANSWER is just this: every octet, and none before and behind. */
+    void reads(String what, ServiceRows2 x, int... want) {
+        for (int i = 0; i < want.length; i++) {
+            due(what + ": answer(" + i + ") throws", throwsAt(x, i), 0);
+            if (throwsAt(x, i) == 0) {
+                due(what + ": answer(" + i + ")", x.answer(i) & 255, want[i] & 255);
+            }
+        }
+        due(what + ": answer(-1) throws", throwsAt(x, -1), 1);
+        due(what + ": answer(" + want.length + ") throws", throwsAt(x, want.length), 1);
+    }
+
+    static int throwsAt(ServiceRows2 x, int i) {
+        try {
+            x.answer(i);
+            return 0;
+        } catch (ArrayIndexOutOfBoundsException e) {
+            return e.getClass() == ArrayIndexOutOfBoundsException.class ? 1 : 2;
+        }
+    }
+
+    /** A QUESTION that no check refuses, with its ANSWER. */
+    void serves(String what, ServiceRows2 x, int[] question, int... want) {
+        due(what + ": octets", put(x, question), want.length);
+        due(what + ": code", x.code(), 0);
+        reads(what, x, want);
+    }
+
+    /** A QUESTION that a check refuses, with the ANSWER that tells its code. */
+    void refuses(String what, ServiceRows2 x, int code, int... question) {
+        due(what + ": octets", put(x, question), 3);
+        due(what + ": code", x.code(), code);
+        reads(what, x, 127, question.length == 0 ? 0 : question[0], code);
+    }
+
+    void refusesToAll(String what, ServiceRows2 x, int code, int... question) {
+        due(what + ": octets", put(x, true, question), 3);
+        due(what + ": code", x.code(), code);
+        reads(what, x, 127, question.length == 0 ? 0 : question[0], code);
+    }
+
+    /** A QUESTION without an ANSWER; its code is 0 if no check refused it. */
+    void isSilent(String what, ServiceRows2 x, boolean toAll, int code, int... question) {
+        due(what + ": octets", put(x, toAll, question), 0);
+        due(what + ": code", x.code(), code);
+        reads(what, x);
+    }
+
+    static int[] q(int... octets) {
+        return octets;
+    }
+
+    /** A new object whose present SESSION is this one. */
+    static ServiceRows2 inSession(int session) {
+        ServiceRows2 x = new ServiceRows2();
+        new Checks().put(x, 16, session);
+        return x;
+    }
+
+    void end() {
+        System.out.println(made - wrong + " answers as due, " + wrong + " not");
+        if (wrong != 0 || made == 0) {
+            System.exit(1);
+        }
+    }
+}
