@@ -292,7 +292,6 @@ public final class ServiceRows2 {
         lastCode = serve(question);
         questionTime = time;
         if (lastCode != PASSED) {
-            reply.clear();
             if (!question.isToAll || !isKeptFromAll(lastCode)) {
                 reply.put(REFUSING_HEAD);
                 reply.put(question.service());
@@ -308,7 +307,7 @@ public final class ServiceRows2 {
         return code == NO_SUCH_SERVICE || code == NO_SUCH_FUNCTION || code == NOT_THERE || code == WRONG_SESSION;
     }
 
-    /** The code of the first check that fails, or PASSED, and then the reply holds the ANSWER. */
+    /** The code of the first check that fails, with an empty reply; or PASSED, with the ANSWER in the reply. */
     private int serve(Question question) {
         if (question.isEmpty()) {
             return WRONG_LENGTH;
@@ -685,7 +684,6 @@ public final class ServiceRows2 {
 
         void release() {
             isHeld = false;
-            held = 0L;
         }
 
         /** An octet of the VALUE, as 0 .. 255; place 0 is the highest one. */
