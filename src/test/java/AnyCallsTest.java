@@ -6,8 +6,8 @@ import java.util.Random;
  */
 public final class AnyCallsTest {
     private static final int RUNS = 4000;
-    /** A step makes some five calls, and an object is used for 512. */
-    private static final int STEPS = 100;
+    /** An object is used for 512 calls, and a QUESTION with what is asked about it takes at most 70. */
+    private static final int CALLS = 512 - 70;
     private static final int[] SERVICES = {16, 17, 34, 46, 47, 49, 52, 54, 55, 62};
     private static final int[] FUNCTIONS = {1, 2, 3, 0, 129, 130, 131, 128, 255};
 
@@ -16,14 +16,15 @@ public final class AnyCallsTest {
         Random random = new Random(20261115L);
         for (int run = 0; run < RUNS; run++) {
             ServiceRows2 x = new ServiceRows2();
-            for (int i = 0; i < STEPS; i++) {
-                call(c, x, random);
+            for (int calls = 0; calls < CALLS; ) {
+                calls += call(c, x, random);
             }
         }
         c.end();
     }
 
-    private static void call(Checks c, ServiceRows2 x, Random random) {
+    /** Some call, or a QUESTION: how many calls that were. */
+    private static int call(Checks c, ServiceRows2 x, Random random) {
         switch (random.nextInt(16)) {
             case 0 -> among(c, "identifier", x.identifier(number(random), random.nextInt(10), random.nextInt(5),
                     random.nextInt(5)), -4, 40, 0, -1);
@@ -38,8 +39,11 @@ public final class AnyCallsTest {
             case 9 -> among(c, "tick", x.tick(random.nextInt(9) == 0 ? random.nextLong() : random.nextInt(9000)), -2, 1, -1);
             case 10 -> throwsOutside(c, x, random.nextInt(), 41);
             case 11 -> x.value(number(random));
-            default -> question(c, x, random);
+            default -> {
+                return question(c, x, random);
+            }
         }
+        return 1;
     }
 
     private static int number(Random random) {
@@ -54,9 +58,10 @@ public final class AnyCallsTest {
         }
     }
 
-    private static void question(Checks c, ServiceRows2 x, Random random) {
+    private static int question(Checks c, ServiceRows2 x, Random random) {
         int n = random.nextInt(8) == 0 ? random.nextInt(128) : random.nextInt(12);
         int octets = 0;
+        int calls = 1;
         x.ask((byte) (n + (random.nextInt(6) == 0 ? 128 : 0)));
         for (int i = 0; i < Math.min(n, 60) - random.nextInt(9) / 8; i++) {
             int octet = random.nextInt(14);
@@ -68,14 +73,17 @@ public final class AnyCallsTest {
                 octet = random.nextInt(16) == 0 ? random.nextInt(256) : 0;
             }
             octets = x.ask((byte) octet);
+            calls++;
         }
         among(c, "ask", octets, 0, 41, 1);
         if (octets > 0) {
+            calls += 5;
             c.due("the last octet is there", Checks.throwsAt(x, octets - 1), 0);
             throwsOutside(c, x, octets, octets);
             c.due("the head tells a failed check", x.code() != 0 ? 1 : 0, x.answer(0) == 127 ? 1 : 0);
             c.due("an answer of a failed check", x.code() == 0 || octets == 3 ? 1 : 0, 1);
         }
+        return calls;
     }
 
     private static void throwsOutside(Checks c, ServiceRows2 x, int i, int behind) {

@@ -2,13 +2,42 @@
 final class Checks {
     private int wrong = 0;
     private int made = 0;
+    private int sentences = 0;
+    private int madeOfSentence = 0;
+    private String words = "";
+
+    /** What follows, up to the next sentence, is the test of these words of DOC.md. */
+    void sentence(String words) {
+        endSentence();
+        this.words = words;
+        sentences++;
+        madeOfSentence = 0;
+    }
+
+    /** Of a sentence that has several sides, one. */
+    void sentence(String words, String side) {
+        sentence(words + " (" + side + ")");
+    }
+
+    /** A sentence without a single comparison would pass whatever the class does. */
+    private void endSentence() {
+        if (sentences > 0 && madeOfSentence == 0) {
+            wrong++;
+            System.out.println("\"" + words + "\": nothing was compared");
+        }
+    }
 
     void due(String what, long got, long want) {
         made++;
+        madeOfSentence++;
         if (got != want) {
             wrong++;
-            System.out.println(what + " answered " + got + ", due is " + want);
+            System.out.println("\"" + words + "\": " + what + " answered " + got + ", due is " + want);
         }
+    }
+
+    void same(String what, String got, String want) {
+        due(what + " (" + got + " for " + want + ")", got.equals(want) ? 1 : 0, 1);
     }
 
     /** Puts a QUESTION: what the call with its last octet answered. */
@@ -73,6 +102,12 @@ final class Checks {
         reads(what, x);
     }
 
+    /** A QUESTION of which only the code matters. */
+    void codes(String what, ServiceRows2 x, int code, int... question) {
+        put(x, question);
+        due(what + ": code", x.code(), code);
+    }
+
     static int[] q(int... octets) {
         return octets;
     }
@@ -85,7 +120,8 @@ final class Checks {
     }
 
     void end() {
-        System.out.println(made - wrong + " answers as due, " + wrong + " not");
+        endSentence();
+        System.out.println(sentences + " sentences: " + (made - wrong) + " answers as due, " + wrong + " not");
         if (wrong != 0 || made == 0) {
             System.exit(1);
         }
