@@ -63,11 +63,11 @@ public final class AskTest {
             ServiceRows2 x = new ServiceRows2();
             x.ask((byte) head);
             for (int i = 1; i < 60; i++) {
-                c.due("octet " + i + " of " + head, x.ask((byte) 62), 0);
+                c.due("octet " + i + " of " + head, x.ask((byte) 99), 0);
             }
             c.due("it is under way", x.code(), -1);
-            c.due("octet 60 of " + head, x.ask((byte) 62), 3);
-            c.due("its code", x.code(), 19);
+            c.due("octet 60 of " + head, x.ask((byte) 99), 3);
+            c.due("its code", x.code(), 17);
             c.serves("the next one", x, Checks.q(62, 0), 126, 0);
         }
     }

@@ -14,7 +14,8 @@ public final class RightsTest {
         for (int needed = 0; needed <= 3; needed++) {
             x.identifier(needed, 1, 1, needed);
         }
-        for (int level = 0; level <= 3; level++) {
+        int[] levels = {3, 0, 1, 2};
+        for (int level : levels) {
             x.rights(level);
             for (int needed = 0; needed <= 3; needed++) {
                 c.codes("LEVEL " + needed + " at " + level, x, needed > level ? 51 : 0, 34, 0, needed);

@@ -60,8 +60,11 @@ public final class TickTest {
         c.due("one without octets", x.tick(20996), 0);
         c.put(x, true, 99);
         c.due("one to ALL", x.tick(25995), 0);
+        c.put(x, 62, 0);
+        x.tick(28000);
         x.ask((byte) 2);
         x.ask((byte) 62);
+        c.due("not one under way", x.tick(30994), 0);
         c.due("not one under way", x.tick(30995), 1);
         c.due("that one's end", x.ask((byte) 0), 2);
         x.ask((byte) 2);
