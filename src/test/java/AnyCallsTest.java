@@ -87,11 +87,8 @@ public final class AnyCallsTest {
     }
 
     private static void throwsOutside(Checks c, ServiceRows2 x, int i, int behind) {
-        try {
-            x.answer(i);
-            c.due("answer(" + i + ") is inside", i >= 0 && i < behind ? 1 : 0, 1);
-        } catch (ArrayIndexOutOfBoundsException e) {
-            c.due("thrown by the class itself", "the last answer has no such octet".equals(e.getMessage()) ? 1 : 0, 1);
-        }
+        int thrown = Checks.throwsAt(x, i);
+        c.due("answer(" + i + ") by a written throw", thrown == 2 ? 1 : 0, 0);
+        c.due("answer(" + i + ") is inside", thrown == 1 || i >= 0 && i < behind ? 1 : 0, 1);
     }
 }
