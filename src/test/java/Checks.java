@@ -12,11 +12,16 @@ final class Checks {
         this.words = words;
         sentences++;
         madeOfSentence = 0;
+        if (!Document.says(words)) {
+            wrong++;
+            System.out.println("\"" + words + "\": DOC.md does not say this");
+        }
     }
 
     /** Of a sentence that has several sides, one. */
     void sentence(String words, String side) {
-        sentence(words + " (" + side + ")");
+        sentence(words);
+        this.words = words + " (" + side + ")";
     }
 
     /** A sentence without a single comparison would pass whatever the class does. */
